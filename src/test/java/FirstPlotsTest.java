@@ -6,6 +6,7 @@ public final class FirstPlotsTest {
         first();
         led();
         pieces();
+        fullStreet();
         bendAndOrder();
         wall();
         furrow();
@@ -110,6 +111,7 @@ public final class FirstPlotsTest {
         x = street(5, 5, 7, 9, 9);
         due.is("7 goes to either: the earliest break", x.pieces(0, 1, 1), 2);
         due.is("its sum", x.pieces(0, 1, -2), 4);
+        due.is("price 9999", x.pieces(0, 9999, -2), 10007);
         due.is("price -1", x.pieces(0, -1, -2), KinkStreet.BAD);
         due.is("price 10000", x.pieces(0, 10000, -2), KinkStreet.BAD);
         due.is("i -3", x.pieces(0, 1, -3), KinkStreet.BAD);
@@ -118,6 +120,32 @@ public final class FirstPlotsTest {
         due.is("one plot", street(5).pieces(0, 1, -2), KinkStreet.NOT);
         due.is("no plot", street().pieces(0, 1, -1), KinkStreet.NOT);
         due.is("no plot, price 10000", street().pieces(0, 10000, -1), KinkStreet.BAD);
+    }
+
+    /** The rows of the longest STREET: 40 PLOTS of 50, the last two of 100. */
+    private static void fullStreet() {
+        int[] widths = new int[40];
+        java.util.Arrays.fill(widths, 50);
+        widths[38] = 100;
+        widths[39] = 100;
+        KinkStreet x = street(widths);
+        due.promise(10);
+        due.is("19 joinings", x.first(0, 10000, 0), 19);
+        due.is("21 groups", x.first(0, 10000, 1), 21);
+        due.is("21 first ones", x.first(0, 10000, 2), 21);
+        due.promise(11);
+        due.is("led(37)", x.led(37, 10000), 18);
+        due.is("led(38)", x.led(38, 10000), 19);
+        due.is("led(39)", x.led(39, 10000), 20);
+        due.promise(12);
+        due.is("two pieces", x.pieces(0, 10, -1), 2);
+        due.is("the last two", x.pieces(0, 10, 1), 38);
+        due.is("two prices", x.pieces(0, 10, -2), 20);
+        due.promise(15);
+        due.is("no wall above 0", x.wall(0, 0, 0), KinkStreet.NOT);
+        due.is("a wall of all", x.wall(0, -1, 1), 2100);
+        due.promise(17);
+        due.is("all but one", x.market(0, 139), 976);
     }
 
     private static void bendAndOrder() {

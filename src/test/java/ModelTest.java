@@ -7,6 +7,10 @@ public final class ModelTest {
     private static final Due due = new Due("ModelTest");
     private static final String SIGNS = "wndyzfic0123456789!-()|&<=>+*/%?; ";
 
+    /** LAWS by which much comes to pass. */
+    private static final String[] TOWN_LAWS = {"z<30?1;z<60&w>20?2;3", "z<50?2;3", "f>1?2;z<40?1;3", "y%3+1", "i%2*2+1",
+        "n<w?2;n>w?1;3", "c<8?2;c>12?1;3"};
+
     private final Random random;
     private final KinkStreet x = new KinkStreet();
     private final Model m = new Model();
@@ -279,6 +283,9 @@ public final class ModelTest {
     }
 
     private String text() {
+        if (below(3) == 0) {
+            return TOWN_LAWS[below(TOWN_LAWS.length)];
+        }
         StringBuilder text = new StringBuilder();
         int lines = 1 + below(4);
         for (int line = 0; line < lines; line++) {
@@ -340,7 +347,11 @@ public final class ModelTest {
                 int ly = 100 * near(m.count(2)) + years;
                 int seed = random.nextInt();
                 if (below(3) == 0) {
-                    same("town(" + nw + ", " + ly + ", " + seed + ")", x.town(nw, ly, seed), m.town(nw, ly, seed));
+                    int town = m.town(nw, ly, seed);
+                    same("town(" + nw + ", " + ly + ", " + seed + ")", x.town(nw, ly, seed), town);
+                    for (int what = 100; what < 500 && town >= 0; what = what % 100 == 39 ? what + 61 : what + 1) {
+                        due.is("of(" + town + ", " + what + ")", x.of(town, what), m.of(town, what));
+                    }
                 }
                 break;
             }

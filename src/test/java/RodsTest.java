@@ -48,6 +48,8 @@ public final class RodsTest {
         due.is("150 goes into twice all", x.rod(0, 2, 2, 0), 150);
         due.is("225 goes into 3 times 75", x.rod(0, 202, 3, 0), 225);
         due.is("300 goes into 4 times all", x.rod(0, 2, 4, 0), 300);
+        due.is("330 is the last", street(330, 660).rod(0, 1, 1, 0), 330);
+        due.is("40 is the first", street(40, 999).rod(0, 0, 1, 0), 40);
         x = street(1, 1, 999);
         due.is("1 is 39 from 40, 40 from 41: both 975", x.rod(0, 1, 1, 0), 41);
         due.is("its misfit", x.rod(0, 1, 1, 1), 975);

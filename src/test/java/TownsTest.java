@@ -75,14 +75,14 @@ public final class TownsTest {
         Object[][] texts = {{"", 0}, {"w;", 2}, {";w", 0}, {"w;;w", 2}, {"w ", 1}, {"w?", 2}, {"w?w?w", 3}, {"?w", 0},
             {"(w?w)", 2}, {"(w", 2}, {"(w;w)", 2}, {")", 0}, {"w)", 1}, {"()", 1}, {"w<n<d", 3}, {"w<n=d", 3},
             {"12345", 4}, {"1w", 1}, {"w1", 1}, {"ww", 1}, {"w(1)", 1}, {"w!1", 1}, {"w+*1", 2}, {"+w", 0}, {"w+", 2},
-            {"w|", 2}, {"|w", 0}, {"w||w", 2}, {"a", 0}, {"W", 0}, {"w!=1", 1}, {"w<>1", 2}, {"((((((w", 7},
+            {"w|", 2}, {"|w", 0}, {"w||w", 2}, {"a", 0}, {"W", 0}, {"w!=1", 1}, {"w<>1", 2}, {"1?(((((((w", 8}, {"((((((w", 7},
             {"(((((((", 6}, {"!!!!!!!w", 6}, {"------(w", 6}, {"w;w?w;w&", 8}, {"(((((((w)))))))", 6}};
         KinkStreet x = new KinkStreet();
         for (Object[] t : texts) {
             due.is("law " + t[0], lawOf(x, (String) t[0]), -100 - (Integer) t[1]);
             due.is("the tape is empty", x.count(3), 0);
         }
-        String[] right = {"w<n&d=y|z>f", "((((((w))))))+!!!!!!i--c", "0?1;2?3", "(1<2)<(3<4)", "1<2&3<4|5=6", "-1-----1",
+        String[] right = {"w<n&d=y|z>f", "((((((w))))))+!!!!!!i--c", "0?1;2?3", "1?((((((w))))))", "1?!-!-!-w", "(1<2)<(3<4)", "1<2&3<4|5=6", "-1-----1",
             "9999*0000/1%2", "(-(!(1))+(!(-(2))))"};
         for (int i = 0; i < right.length; i++) {
             KinkStreet y = new KinkStreet();
@@ -176,6 +176,8 @@ public final class TownsTest {
         }
         due.is("count(0)", y.count(0), 0);
         partsInHalves();
+        edgesOfWidth();
+        asidesMove();
         joinTakesTheAside();
     }
 
@@ -192,6 +194,47 @@ public final class TownsTest {
         x.town(39999, 160, 8);
         due.is("40 at most", x.of(1, 0), 40);
         due.is("their widths are as they were", x.of(1, 1), 39 * 999);
+    }
+
+    private static void edgesOfWidth() {
+        KinkStreet x = new KinkStreet();
+        lawOf(x, "1");
+        x.town(3333, 60, 5);
+        due.is("joins up to 999", x.of(0, 100), 999);
+        due.is("a width of 1", x.town(2001, 0, 5), 1);
+        due.is("joins two of 1", x.town(2001, 60, 5), 2);
+        due.is("2", x.of(2, 100), 2);
+    }
+
+    /** Of 6 PLOTS all that are not the first stand ASIDE by the 40th YEAR; what comes then moves those behind it. */
+    private static void asidesMove() {
+        KinkStreet x = new KinkStreet();
+        lawOf(x, "y<40?3;y=40?1;0");
+        lawOf(x, "y<40?3;y=40?2;0");
+        lawOf(x, "y<40?3;0");
+        int z = 2;
+        for (int draw = 0; draw < 81; draw++) {
+            z = z * 1103515245 + 12345;
+        }
+        int plot = (z >>> 8) % 6;
+        x.town(6100, 41, 2);
+        x.town(6100, 141, 2);
+        x.town(6100, 241, 2);
+        due.holds("the seed suits: " + plot, plot > 0 && plot < 4 && x.of(2, 2) == 5);
+        due.is("joined", x.of(0, 0), 5);
+        due.is("parted", x.of(1, 0), 7);
+        for (int p = 0; p < 6; p++) {
+            int aside = x.of(2, 300 + p);
+            int joined = p <= plot ? p : p - 1;
+            if (p != plot + 1) {
+                due.is("joined: aside of " + p, x.of(0, 300 + joined), aside);
+                due.is("joined: width of " + p, x.of(0, 100 + joined), p == plot ? 200 : 100);
+            }
+            int parted = p <= plot ? p : p + 1;
+            due.is("parted: aside of " + p, x.of(1, 300 + parted), aside);
+            due.is("parted: width of " + p, x.of(1, 100 + parted), p == plot ? 50 : 100);
+        }
+        due.is("the second half is not aside", x.of(1, 301 + plot), 0);
     }
 
     private static void joinTakesTheAside() {
