@@ -879,6 +879,9 @@ public final class KinkStreet {
 
         boolean canPart(Street s, int width, int slack) {
             int n = s.size();
+            if (n < 0 || n >= costs.length) {
+                return false;
+            }
             costs[n] = 0;
             groupCounts[n] = 0;
             groupPlots[n] = 0;
@@ -953,7 +956,7 @@ public final class KinkStreet {
         private int pieceCount;
 
         void divide(Street s, int price) {
-            for (int begin = 0; begin < s.size(); begin++) {
+            for (int begin = 0; begin < s.size() && begin < MOST_PLOTS; begin++) {
                 workOutSpreads(s, begin, s.aside(begin) == 0 ? price : 0);
             }
             pieceCount = 1;
@@ -1129,7 +1132,7 @@ public final class KinkStreet {
         }
 
         int putTogether(Street s, int slack) {
-            plots = s.size();
+            plots = Math.min(s.size(), MOST_PLOTS);
             ways = 0;
             if (names < 1 || names > MOST_TOGETHER) {
                 return 0;
