@@ -11,15 +11,6 @@ public final class DeedsTest {
         due.end();
     }
 
-    private static KinkStreet street(int... widths) {
-        KinkStreet x = new KinkStreet();
-        x.street();
-        for (int w : widths) {
-            x.plot(0, w, 99000);
-        }
-        return x;
-    }
-
     private static void deed() {
         due.promise(18);
         KinkStreet x = new KinkStreet();
@@ -65,7 +56,7 @@ public final class DeedsTest {
 
     private static void all() {
         due.promise(21);
-        KinkStreet x = street(100, 50, 50, 300, 100);
+        KinkStreet x = Due.street(100, 50, 50, 300, 100);
         due.is("no deeds", x.all(0, 0, -1), KinkStreet.STATE);
         due.is("no deeds, a name", x.all(0, 0, 3), KinkStreet.BAD);
         due.is("no deeds, no street", x.all(1, 0, -1), KinkStreet.BAD);
@@ -103,14 +94,14 @@ public final class DeedsTest {
         x.deed(46, 0);
         due.is("7 names", x.all(0, 99, -1), KinkStreet.BIG);
         due.is("7 names, one that is in none", x.all(0, 99, 7), KinkStreet.BAD);
-        x = street();
+        x = Due.street();
         x.stands(0, 0);
         due.is("an empty street", x.all(0, 99, -1), KinkStreet.NOT);
     }
 
     private static void many() {
         due.promise(21);
-        KinkStreet x = street();
+        KinkStreet x = Due.street();
         for (int p = 0; p < 40; p++) {
             x.plot(0, 1, 99000);
         }

@@ -9,6 +9,16 @@ final class Due {
         this.name = name;
     }
 
+    /** A new object with one STREET of these WIDTHS, without DEPTHS and KINKS. */
+    static KinkStreet street(int... widths) {
+        KinkStreet x = new KinkStreet();
+        x.street();
+        for (int w : widths) {
+            x.plot(0, w, 99000);
+        }
+        return x;
+    }
+
     void promise(int number) {
         promise = number;
     }

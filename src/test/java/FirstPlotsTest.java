@@ -14,37 +14,28 @@ public final class FirstPlotsTest {
         due.end();
     }
 
-    private static KinkStreet street(int... widths) {
-        KinkStreet x = new KinkStreet();
-        x.street();
-        for (int w : widths) {
-            x.plot(0, w, 99000);
-        }
-        return x;
-    }
-
     private static void first() {
         due.promise(10);
-        KinkStreet x = street(100, 50, 50, 300, 100);
+        KinkStreet x = Due.street(100, 50, 50, 300, 100);
         due.is("1 joining, 2 partings", x.first(0, 10000, 0), 3);
         due.is("groups", x.first(0, 10000, 1), 4);
         due.is("first ones", x.first(0, 10000, 2), 6);
         due.is("none by 90", x.first(0, 9000, 0), KinkStreet.NOT);
         due.is("none by 90: groups", x.first(0, 9000, 1), KinkStreet.NOT);
-        x = street(110);
+        x = Due.street(110);
         due.is("by slack 10", x.first(0, 10010, 0), 0);
         due.is("by slack 9", x.first(0, 10009, 0), KinkStreet.NOT);
-        x = street(220);
+        x = Due.street(220);
         due.is("2 by slack 10 each", x.first(0, 10010, 0), 1);
         due.is("2 by slack 9 each", x.first(0, 10009, 0), KinkStreet.NOT);
-        x = street(600);
+        x = Due.street(600);
         due.is("6 of 100", x.first(0, 10000, 2), 6);
         due.is("7 of 85 are too many", x.first(0, 8504, 2), KinkStreet.NOT);
-        x = street(20, 20, 20, 20, 20, 20);
+        x = Due.street(20, 20, 20, 20, 20, 20);
         due.is("6 make one of 120", x.first(0, 12000, 0), 5);
-        x = street(20, 20, 20, 20, 20, 20, 20);
+        x = Due.street(20, 20, 20, 20, 20, 20, 20);
         due.is("7 can't", x.first(0, 14000, 0), KinkStreet.NOT);
-        x = street();
+        x = Due.street();
         due.is("of none", x.first(0, 1000, 2), 0);
         int[][] wrong = {{1, 10000, 0}, {-1, 10000, 0}, {0, 999, 0}, {0, 100000, 0}, {0, -1, 0}, {0, 10000, 3},
             {0, 10000, -1}};
@@ -56,17 +47,17 @@ public final class FirstPlotsTest {
 
     private static void led() {
         due.promise(11);
-        KinkStreet x = street(100, 50, 50, 300, 100);
+        KinkStreet x = Due.street(100, 50, 50, 300, 100);
         int[] want = {0, 1, 1, 2, 5};
         for (int p = 0; p < want.length; p++) {
             due.is("led(" + p + ")", x.led(p, 10000), want[p]);
         }
         due.is("led by 90", x.led(0, 9000), KinkStreet.NOT);
         // By SLACK 50 one of 150 is one or two of 100: both cost the least only as one.
-        x = street(150, 150, 50);
+        x = Due.street(150, 150, 50);
         due.is("cost by slack 50", x.first(0, 10050, 0), 0);
         due.is("first ones", x.first(0, 10050, 2), 3);
-        x = street(40, 60, 40, 60);
+        x = Due.street(40, 60, 40, 60);
         due.is("cost", x.first(0, 10000, 0), 2);
         due.is("led(2)", x.led(2, 10000), 1);
         due.is("led, no plot", x.led(4, 10000), KinkStreet.BAD);
@@ -75,14 +66,14 @@ public final class FirstPlotsTest {
         due.is("led, W 9", x.led(0, 999), KinkStreet.BAD);
         due.is("led, W 1000", x.led(0, 100000), KinkStreet.BAD);
         // By W 85 and SLACK 25 (60 to 110): (30, 40), (30, 70) or (30, 40, 30), 70, both of cost 2 and two GROUPS.
-        x = street(30, 40, 30, 70);
+        x = Due.street(30, 40, 30, 70);
         due.is("cost 2", x.first(0, 8525, 0), 2);
         due.is("the first group has the fewest plots", x.led(2, 8525), 1);
     }
 
     private static void pieces() {
         due.promise(12);
-        KinkStreet x = street(100, 100, 200, 200, 200);
+        KinkStreet x = Due.street(100, 100, 200, 200, 200);
         due.is("one piece: 200 + price 250", x.pieces(0, 250, -2), 450);
         due.is("one", x.pieces(0, 250, -1), 1);
         due.is("two of them: 2 prices", x.pieces(0, 150, -2), 300);
@@ -95,20 +86,20 @@ public final class FirstPlotsTest {
         x.mend(3, 2, 5);
         due.is("a kink costs 0: 200 200 kept together still", x.pieces(0, 500, -2), 600);
         due.is("a kink: begins there", x.pieces(0, 500, 1), 3);
-        x = street(1, 3, 1, 3, 1, 3, 1, 3);
+        x = Due.street(1, 3, 1, 3, 1, 3, 1, 3);
         due.is("the lower middle one: 4 times 2", x.pieces(0, 100, -2), 108);
-        x = street(7, 7, 7, 7);
+        x = Due.street(7, 7, 7, 7);
         due.is("fewest at price 0", x.pieces(0, 0, -1), 1);
-        x = street(1, 1, 9, 9, 5, 5, 7, 7, 3, 3, 8, 8);
+        x = Due.street(1, 1, 9, 9, 5, 5, 7, 7, 3, 3, 8, 8);
         due.is("at most 5 pieces", x.pieces(0, 0, -1), 5);
         due.is("5, 5, 7, 7 cost 4; 3, 3, 8, 8: 10; 7, 7, 3, 3: 8", x.pieces(0, 0, -2), 4);
         int[] begins = {0, 2, 4, 8, 10};
         for (int i = 0; i < 5; i++) {
             due.is("begin " + i, x.pieces(0, 0, i), begins[i]);
         }
-        x = street(5, 5, 9, 5, 5);
+        x = Due.street(5, 5, 9, 5, 5);
         due.is("5 5 | 9 5 5 or 5 5 9 | 5 5: one piece is as little", x.pieces(0, 0, -1), 1);
-        x = street(5, 5, 7, 9, 9);
+        x = Due.street(5, 5, 7, 9, 9);
         due.is("7 goes to either: the earliest break", x.pieces(0, 1, 1), 2);
         due.is("its sum", x.pieces(0, 1, -2), 4);
         due.is("price 9999", x.pieces(0, 9999, -2), 10007);
@@ -117,9 +108,9 @@ public final class FirstPlotsTest {
         due.is("i -3", x.pieces(0, 1, -3), KinkStreet.BAD);
         due.is("i 5", x.pieces(0, 1, 5), KinkStreet.BAD);
         due.is("no street", x.pieces(1, 1, 0), KinkStreet.BAD);
-        due.is("one plot", street(5).pieces(0, 1, -2), KinkStreet.NOT);
-        due.is("no plot", street().pieces(0, 1, -1), KinkStreet.NOT);
-        due.is("no plot, price 10000", street().pieces(0, 10000, -1), KinkStreet.BAD);
+        due.is("one plot", Due.street(5).pieces(0, 1, -2), KinkStreet.NOT);
+        due.is("no plot", Due.street().pieces(0, 1, -1), KinkStreet.NOT);
+        due.is("no plot, price 10000", Due.street().pieces(0, 10000, -1), KinkStreet.BAD);
     }
 
     /** The rows of the longest STREET: 40 PLOTS of 50, the last two of 100. */
@@ -128,7 +119,7 @@ public final class FirstPlotsTest {
         java.util.Arrays.fill(widths, 50);
         widths[38] = 100;
         widths[39] = 100;
-        KinkStreet x = street(widths);
+        KinkStreet x = Due.street(widths);
         due.promise(10);
         due.is("19 joinings", x.first(0, 10000, 0), 19);
         due.is("21 groups", x.first(0, 10000, 1), 21);
@@ -234,7 +225,7 @@ public final class FirstPlotsTest {
 
     private static void market() {
         due.promise(17);
-        KinkStreet x = street(100, 200, 300, 1);
+        KinkStreet x = Due.street(100, 200, 300, 1);
         due.is("200 and 300 of 601", x.market(0, 102), 831);
         due.is("1 of 601", x.market(0, 303), 1);
         due.is("all", x.market(0, 3), 1000);
@@ -242,6 +233,6 @@ public final class FirstPlotsTest {
         due.is("from 2 to 1", x.market(0, 201), KinkStreet.BAD);
         due.is("-1", x.market(0, -1), KinkStreet.BAD);
         due.is("no street", x.market(1, 0), KinkStreet.BAD);
-        due.is("no plots", street().market(0, 0), KinkStreet.BAD);
+        due.is("no plots", Due.street().market(0, 0), KinkStreet.BAD);
     }
 }

@@ -9,18 +9,9 @@ public final class RodsTest {
         due.end();
     }
 
-    private static KinkStreet street(int... widths) {
-        KinkStreet x = new KinkStreet();
-        x.street();
-        for (int w : widths) {
-            x.plot(0, w, 99000);
-        }
-        return x;
-    }
-
     private static void misfit() {
         due.promise(7);
-        KinkStreet x = street(165, 330, 82, 248, 50);
+        KinkStreet x = Due.street(165, 330, 82, 248, 50);
         due.is("two right multiples", x.misfit(0, 1, 1651), 0);
         due.is("82 is 83 from 165", x.misfit(0, 202, 1651), 503);
         due.is("248 is 82 from 330, 83 from 165", x.misfit(0, 303, 1651), 496);
@@ -39,7 +30,7 @@ public final class RodsTest {
 
     private static void rod() {
         due.promise(8);
-        KinkStreet x = street(300, 150, 75);
+        KinkStreet x = Due.street(300, 150, 75);
         due.is("the greatest of all that go: 300", x.rod(0, 0, 1, 0), 300);
         due.is("no misfit", x.rod(0, 0, 1, 1), 0);
         due.is("150 goes into 300, 150", x.rod(0, 1, 1, 0), 150);
@@ -48,9 +39,9 @@ public final class RodsTest {
         due.is("150 goes into twice all", x.rod(0, 2, 2, 0), 150);
         due.is("225 goes into 3 times 75", x.rod(0, 202, 3, 0), 225);
         due.is("300 goes into 4 times all", x.rod(0, 2, 4, 0), 300);
-        due.is("330 is the last", street(330, 660).rod(0, 1, 1, 0), 330);
-        due.is("40 is the first", street(40, 999).rod(0, 0, 1, 0), 40);
-        x = street(1, 1, 999);
+        due.is("330 is the last", Due.street(330, 660).rod(0, 1, 1, 0), 330);
+        due.is("40 is the first", Due.street(40, 999).rod(0, 0, 1, 0), 40);
+        x = Due.street(1, 1, 999);
         due.is("1 is 39 from 40, 40 from 41: both 975", x.rod(0, 1, 1, 0), 41);
         due.is("its misfit", x.rod(0, 1, 1, 1), 975);
         int[][] wrong = {{1, 0, 1, 0}, {0, 3, 1, 0}, {0, 100, 1, 0}, {0, -1, 1, 0}, {0, 0, 0, 0}, {0, 0, 5, 0},
@@ -64,12 +55,12 @@ public final class RodsTest {
     private static void chance() {
         due.promise(9);
         // One WIDTH of 40 and more always has a rod that goes: every drawn one from 40 on is as good.
-        KinkStreet x = street(100);
+        KinkStreet x = Due.street(100);
         due.is("50 of 50", x.chance(0, 0, 150, 7), 50);
         due.is("1 of 1", x.chance(0, 0, 401, -7), 1);
-        x = street(1);
+        x = Due.street(1);
         due.is("0 + 48 % 2 is 0, worse than 1", x.chance(0, 0, 101, 0), 0);
-        x = street(165, 330, 165, 82);
+        x = Due.street(165, 330, 165, 82);
         due.is("none of 50", x.chance(0, 2, 150, 3), 0);
         int[][] wrong = {{1, 0, 101}, {0, 4, 101}, {0, 100, 101}, {0, 0, 1}, {0, 0, 501}, {0, 0, 100}, {0, 0, 151},
             {0, 0, -1}, {0, -1, 101}};
