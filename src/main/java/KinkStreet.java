@@ -577,11 +577,11 @@ public final class KinkStreet {
         }
 
         int width(int plot) {
-            return fact(WIDTH, plot);
+            return has(plot) ? widths[plot] : 0;
         }
 
         int aside(int plot) {
-            return fact(ASIDE, plot);
+            return has(plot) ? asides[plot] : 0;
         }
 
         private int[] facts(int what) {
