@@ -87,10 +87,11 @@ public final class PartingSentencesTest {
         KinkStreet x = Due.street(146, 132, 32, 85, 217, 149, 38, 144);
         due.is("3 or 4 groups cost 14", x.first(0, 7308, 0), 14);
         due.is("3", x.first(0, 7308, 1), 3);
-        due.is("10 first ones, where 4 groups have 12", x.first(0, 7308, 2), 12);
+        due.is("12 first ones, where 4 groups have 14", x.first(0, 7308, 2), 12);
         x = Due.street(34, 181, 83, 51, 218, 161, 150, 42, 74, 63, 17);
         due.is("4 or 5 groups cost 16", x.first(0, 7809, 0), 16);
         due.is("4", x.first(0, 7809, 1), 4);
+        due.is("13 first ones, where 5 groups have 15", x.first(0, 7809, 2), 13);
         due.is("a beginning alone is not enough", Due.street(100, 100, 37).first(0, 10000, 0), NOT);
         due.is("an end alone is not enough", Due.street(37, 100, 100).first(0, 10000, 0), NOT);
     }
@@ -111,8 +112,10 @@ public final class PartingSentencesTest {
             due.is("led(" + p + ") where two are best", x.led(p, 8525), fewest[p]);
         }
         x = Due.street(146, 132, 32, 85, 217, 149, 38, 144);
-        due.is("the first group of 3 best ones begins at", x.led(0, 7308), 0);
-        due.is("the last plot is led by 3 groups", x.led(7, 7308), ledBySums(x, 7, 73, 8));
+        int[] threeGroups = {0, 0, 0, 0, 5, 5, 5, 10};
+        for (int p = 0; p < threeGroups.length; p++) {
+            due.is("led(" + p + ") by the fewest groups", x.led(p, 7308), threeGroups[p]);
+        }
         due.says("`int led(int sp, int ws)`: LED of a PLOT. BAD; NOT.");
         x = new KinkStreet();
         for (int s = 0; s < 6; s++) {
@@ -129,32 +132,6 @@ public final class PartingSentencesTest {
         for (int sp : wrong) {
             due.is("led(" + sp + ")", x.led(sp, 10000), BAD);
         }
-    }
-
-    /** What LED is of the last PLOT, if it is in the last of three GROUPS: first ones of two GROUPS that leave 12 in all. */
-    private static int ledBySums(KinkStreet x, int last, int w, int slack) {
-        for (int a = 1; a <= 6; a++) {
-            for (int b = 1; b <= 6 && a + b <= last; b++) {
-                int c = last + 1 - a - b;
-                int fa = fewestFirstOnes(x, 0, a, w, slack);
-                int fb = fewestFirstOnes(x, a, a + b, w, slack);
-                int fc = c > 6 ? 0 : fewestFirstOnes(x, a + b, last + 1, w, slack);
-                if (fa > 0 && fb > 0 && fc > 0 && last + 1 + fa + fb + fc - 6 == x.first(0, 100 * w + slack, 0)) {
-                    return fa + fb;
-                }
-            }
-        }
-        return -100;
-    }
-
-    private static int fewestFirstOnes(KinkStreet x, int begin, int end, int w, int slack) {
-        int sum = (end == x.of(0, 0) ? x.of(0, 1) : x.of(0, 400 + end)) - x.of(0, 400 + begin);
-        for (int f = 1; f <= 6; f++) {
-            if (Math.abs(sum - f * w) <= f * slack) {
-                return f;
-            }
-        }
-        return 0;
     }
 
     private static void parted(String what, KinkStreet x, int price, int sum, int... begins) {
