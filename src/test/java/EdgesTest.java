@@ -68,7 +68,7 @@ public final class EdgesTest {
     }
 
     /** All that can be told of an object without changing it. */
-    private static String told(KinkStreet x) {
+    static String told(KinkStreet x) {
         StringBuilder told = new StringBuilder();
         for (int what = 0; what < 8; what++) {
             told.append(x.count(what)).append(' ');
