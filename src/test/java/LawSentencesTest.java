@@ -430,6 +430,12 @@ public final class LawSentencesTest {
             x.town(4101, joins + 1, Draws.seed(joining, places));
             due.is("f of " + (joins + 1) + " joined", x.of(0, 0), 4 - joins + 1);
         }
+        for (int plots = 2; plots < 40; plots++) {
+            KinkStreet y = new KinkStreet();
+            Due.law(y, "f=1?2;0");
+            y.town(1000 * plots + 40, 1, 7);
+            due.is("f of all of it, of " + plots, y.of(0, 0), plots + 1);
+        }
         KinkStreet x = new KinkStreet();
         Due.law(x, "y=0?2;f=0?2;0");
         x.town(2101, 2, Draws.seed(new int[] {2, 3}, new int[] {0, 1}));

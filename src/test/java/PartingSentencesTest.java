@@ -92,6 +92,12 @@ public final class PartingSentencesTest {
         due.is("4 or 5 groups cost 16", x.first(0, 7809, 0), 16);
         due.is("4", x.first(0, 7809, 1), 4);
         due.is("13 first ones, where 5 groups have 15", x.first(0, 7809, 2), 13);
+        int[] widths = new int[40];
+        java.util.Arrays.fill(widths, 10);
+        x = Due.street(widths);
+        due.is("40 plots by 60: six groups of 6, one of 4 can't be", x.first(0, 6000, 0), NOT);
+        due.is("40 plots by 20: pairs", x.first(0, 2000, 1), 20);
+        due.is("40 plots by 20: the last one's", x.led(39, 2000), 19);
         due.is("a beginning alone is not enough", Due.street(100, 100, 37).first(0, 10000, 0), NOT);
         due.is("an end alone is not enough", Due.street(37, 100, 100).first(0, 10000, 0), NOT);
     }
@@ -194,6 +200,13 @@ public final class PartingSentencesTest {
         parted("7 goes ahead or behind: the earlier break", Due.street(5, 5, 7, 9, 9), 0, 2, 0, 2);
         parted("breaks 2 and 7, or 3 and 6: the first one first", Due.street(3, 3, 5, 9, 1, 9, 5, 3, 3), 0, 12, 0, 2, 7);
         parted("3 and 8, 4 and 7, 5 and 8", Due.street(5, 7, 7, 3, 9, 5, 9, 5, 1, 3), 0, 14, 0, 3, 8);
+        int[] widths = new int[40];
+        java.util.Arrays.fill(widths, 999);
+        parted("40 plots", Due.street(widths), 9999, 9999, 0);
+        for (int p = 0; p < 38; p++) {
+            widths[p] = 1 + p / 10;
+        }
+        parted("40 plots, the last two apart", Due.street(widths), 1, 5, 0, 10, 20, 30, 38);
         due.says("NOT: fewer than 2 PLOTS.");
         for (int i = -2; i < 0; i++) {
             due.is("no plots", Due.street().pieces(0, 0, i), NOT);

@@ -19,6 +19,8 @@ public final class StreetSentencesTest {
         rod();
         chance();
         chanceDraws();
+        chanceParts();
+        noSuchStreet();
         due.end();
     }
 
@@ -422,5 +424,55 @@ public final class StreetSentencesTest {
                 / (40 * widths.length) ? 1 : 0;
         }
         return often;
+    }
+
+    /** One WIDTH of 30: by its halves it makes 60, for which there is a rod, as for every drawn one from 20 on. */
+    private static void chanceParts() {
+        due.says("(kn: 100 k and n). BAD.");
+        for (int seed = 0; seed < 60; seed++) {
+            int drawn = 15 + (seed * 1103515245 + 12345 >>> 8) % 31;
+            KinkStreet x = Due.street(30);
+            due.is("k 1, " + drawn + " drawn", x.chance(0, 0, 101, seed), drawn >= 30 ? 1 : 0);
+            due.is("k 2, " + drawn + " drawn", x.chance(0, 0, 201, seed), drawn >= 20 ? 1 : 0);
+            due.is("k 3, " + drawn + " drawn", x.chance(0, 0, 301, seed), 1);
+            due.is("k 4, " + drawn + " drawn", x.chance(0, 0, 401, seed), 1);
+        }
+    }
+
+    /** Every call that a STREET's number is told to, with such as are none yet, though there may be as many. */
+    private static void noSuchStreet() {
+        due.promise(6);
+        due.says("BAD (-1): no such number, or it is not as said;");
+        for (int streets = 0; streets < 6; streets++) {
+            KinkStreet x = streets(streets);
+            Due.law(x, "0");
+            x.stands(0, 0);
+            x.row(0, 1, 3);
+            x.put(0, 0, 10);
+            for (int s = streets; s <= 7; s++) {
+                String of = "street " + s + " of " + streets + ": ";
+                due.is(of + "plot", x.plot(s, 10, 99000), BAD);
+                due.is(of + "plots", x.plots(s, 0, 0, 1), BAD);
+                due.is(of + "mend", x.mend(100 * s, 0, 5), VOID);
+                due.is(of + "of", x.of(s, 0), VOID);
+                due.is(of + "misfit", x.misfit(s, 0, 1001), BAD);
+                due.is(of + "rod", x.rod(s, 0, 1, 0), BAD);
+                due.is(of + "chance", x.chance(s, 0, 101, 1), BAD);
+                due.is(of + "first", x.first(s, 1000, 0), BAD);
+                due.is(of + "led", x.led(100 * s, 1000), BAD);
+                due.is(of + "pieces", x.pieces(s, 0, -2), BAD);
+                due.is(of + "bend", x.bend(10 * s), BAD);
+                due.is(of + "bend, the other one", x.bend(s), BAD);
+                due.is(of + "wall", x.wall(s, 0, 0), BAD);
+                due.is(of + "furrow", x.furrow(s), BAD);
+                due.is(of + "market", x.market(s, 0), BAD);
+                due.is(of + "all", x.all(s, 0, -1), BAD);
+                due.is(of + "story", x.story(s, 2001, 0, 0), BAD);
+                due.is(of + "dig", x.dig(10 * s), BAD);
+                due.is(of + "dig, the other one", x.dig(s), BAD);
+            }
+            due.is("none came", x.count(0), streets);
+            due.is("none bends", x.count(4), 0);
+        }
     }
 }
