@@ -30,6 +30,8 @@ public final class ShelfSentencesTest {
         count();
         severalRefusals();
         nothingChanges();
+        constants();
+        hostRefusals();
         due.end();
     }
 
@@ -513,5 +515,36 @@ public final class ShelfSentencesTest {
         }
         due.holds("all is as it was", EdgesTest.told(x).equals(before));
         due.is("10 deeds", x.burn(), 10);
+    }
+
+    private static void constants() {
+        due.promise(1);
+        due.says("public static final int BAD = -1, NOT = -2, FULL = -3, BIG = -4, STATE = -5, VOID = -2000000000;");
+        int[] constants = {KinkStreet.BAD, KinkStreet.NOT, KinkStreet.FULL, KinkStreet.BIG, KinkStreet.STATE};
+        for (int i = 0; i < constants.length; i++) {
+            due.is("constant " + i, constants[i], -1 - i);
+        }
+        due.says("VOID is -2000000000.");
+        due.is("VOID", KinkStreet.VOID, -2000000000);
+        due.is("of no street", new KinkStreet().of(0, 0), -2000000000);
+        due.is("mend of no street", new KinkStreet().mend(0, 0, 1), -2000000000);
+    }
+
+    private static void hostRefusals() {
+        due.promise(34);
+        due.says("The host's REFUSALS: -11 nothing is there where something is wanted; -12 it is of another kind; -13 a place that is not there; -14 a size below 0.");
+        KinkStreet x = rows();
+        due.is("put where nothing is", x.put(4, 9, 1), -11);
+        due.is("put where a line is", x.put(3, 9, 1), -12);
+        due.is("put behind the end", x.put(0, 9, 1), -13);
+        due.is("shift from nothing to a line", x.shift(4, 9, 3, 9, 9), -11);
+        due.is("shift from a line", x.shift(3, 9, 0, 9, 9), -12);
+        due.is("shift behind the end", x.shift(0, 9, 1, 9, 9), -13);
+        due.is("take from nothing", x.taken(4, 0), -11);
+        due.is("take from a row", x.taken(0, 0), -12);
+        due.is("plots from nothing: the row is missing", Due.street(10).plots(0, 0, 0, 1), 0);
+        due.is("a row of -1", x.row(0, 2, -1), -14);
+        due.is("a row of -60", x.row(4, 0, -60), -14);
+        due.is("nothing came of it", x.put(4, 0, 1), -11);
     }
 }
