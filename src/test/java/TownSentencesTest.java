@@ -259,6 +259,7 @@ public final class TownSentencesTest {
         due.says("STORIES of a STREET: SEEDS of a LAW (law), or of law -1 the LAW with the most. BAD; STATE: no LAWS.");
         KinkStreet x = Due.street(1, 1);
         due.is("no laws", x.story(0, 2001, 0, -1), STATE);
+        due.is("no laws, law 0: BAD, STATE", x.story(0, 2001, 0, 0), BAD);
         due.is("no laws, law -2", x.story(0, 2001, 0, -2), BAD);
         due.is("no laws, 61 years", x.story(0, 2001, 61, -1), BAD);
         due.is("no laws, no street", x.story(1, 2001, 0, -1), BAD);
