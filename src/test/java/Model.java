@@ -198,14 +198,17 @@ final class Model {
 
     // ---- first plots, pieces
 
-    /** All partings in the order in which the document wants them taken, so that the first best one stays. */
-    private static void partings(List<Plot> s, int begin, int w, int slack, List<int[]> groups, List<int[]> best) {
+    /**
+     * All partings in the order in which the document wants them taken, so that the first best one stays;
+     * those are left that already cost as much as it does.
+     */
+    private static void partings(List<Plot> s, int begin, int w, int slack, int cost, List<int[]> groups, List<int[]> best) {
+        if (!best.isEmpty() && cost >= worth(best)) {
+            return;
+        }
         if (begin == s.size()) {
-            if (best.isEmpty() || worth(groups) < worth(best.subList(1, best.size()))) {
-                best.clear();
-                best.add(new int[] {0, 0});
-                best.addAll(groups);
-            }
+            best.clear();
+            best.addAll(groups);
             return;
         }
         int sum = 0;
@@ -213,8 +216,9 @@ final class Model {
             sum += s.get(begin + p - 1).width();
             for (int f = 1; f <= 6; f++) {
                 if (sum >= f * w - f * slack && sum <= f * w + f * slack) {
-                    groups.add(new int[] {p, f});
-                    partings(s, begin + p, w, slack, groups, best);
+                    int[] group = {p, f};
+                    groups.add(group);
+                    partings(s, begin + p, w, slack, cost + worth(List.of(group)), groups, best);
                     groups.remove(groups.size() - 1);
                 }
             }
@@ -222,13 +226,18 @@ final class Model {
     }
 
     private static int worth(List<int[]> groups) {
-        return groups.stream().mapToInt(g -> 1000 * (g[0] - 1 + g[1] - 1) + 1).sum();
+        int worth = 0;
+        for (int[] g : groups) {
+            worth += 1000 * (g[0] - 1 + g[1] - 1) + 1;
+        }
+        return worth;
     }
 
     private List<int[]> parting(int street, int ws) {
+        List<Plot> s = streets.get(street);
         List<int[]> best = new ArrayList<>();
-        partings(streets.get(street), 0, ws / 100, ws % 100, new ArrayList<>(), best);
-        return best.isEmpty() ? null : best.subList(1, best.size());
+        partings(s, 0, ws / 100, ws % 100, 0, new ArrayList<>(), best);
+        return best.isEmpty() && !s.isEmpty() ? null : best;
     }
 
     int first(int street, int ws, int what) {

@@ -193,8 +193,8 @@ public final class ShelfSentencesTest {
     private static void row() {
         due.promise(33);
         due.says("of 0 bytes, 1 shorts, 2 ints, 3 longs, 4 booleans, of 0 .. 60 elements, 0 at first (false);");
-        KinkStreet x = new KinkStreet();
         for (int sort = 0; sort <= 4; sort++) {
+            KinkStreet x = new KinkStreet();
             for (int n = 0; n <= 60; n += 20) {
                 due.is("row(5, " + sort + ", " + n + ")", x.row(5, sort, n), 1);
                 due.is("behind the last element", x.put(5, n, 1), -13);
@@ -205,6 +205,7 @@ public final class ShelfSentencesTest {
             }
         }
         due.says("A SHELF holds a ROW: 1. BAD (sort, n above 60); -14.");
+        KinkStreet x = new KinkStreet();
         x.row(0, 0, 3);
         x.put(0, 2, 9);
         int[][] wrong = {{0, 5, 3, BAD}, {0, -1, 3, BAD}, {0, 0, 61, BAD}, {0, 4, 61, BAD}, {0, 0, Integer.MAX_VALUE, BAD},
@@ -502,19 +503,26 @@ public final class ShelfSentencesTest {
 
     private static void nothingChanges() {
         due.says("What is answered so changes nothing.");
+        for (long answer : refused(full())) {
+            due.holds("refused: " + answer, answer < 0);
+        }
         KinkStreet x = full();
-        String before = EdgesTest.told(x);
-        long[] refused = {x.street(), x.plot(0, 1, 99000), x.plot(1, 0, 99000), x.plot(1, 1, 99999999), x.plots(0, 0, 0, 1),
+        int refused = refused(x).length;
+        due.is("10 deeds", x.burn(), 10);
+        due.holds("all is as it was", Seen.of(() -> {
+            KinkStreet y = full();
+            refused(y);
+            return y;
+        }, 160 + refused).equals(Seen.of(ShelfSentencesTest::full, 160)));
+    }
+
+    private static long[] refused(KinkStreet x) {
+        return new long[] {x.street(), x.plot(0, 1, 99000), x.plot(1, 0, 99000), x.plot(1, 1, 99999999), x.plots(0, 0, 0, 1),
             x.plots(1, 2, 0, 1), x.plots(1, 1, 0, 21), x.mend(0, 0, 0), x.mend(0, 2, 1), x.bend(11), x.bend(16),
             x.deed(11, 5), x.deed(10, 5), x.stands(0, 40), x.stands(0, 4), x.feed(0, 1), x.feed(4, 1), x.law(),
             x.town(2000, 0, 0), x.town(2001, 0, 0), x.undo(), x.redo(), x.body(8), x.body(0), x.keep(6, 0), x.keep(0, 50),
             x.row(0, 5, 3), x.row(0, 0, 61), x.row(0, 0, -1), x.put(0, 3, 1), x.put(2, 0, 1), x.put(3, 0, 1),
             x.shift(0, 0, 1, 0, 1), x.shift(0, 0, 0, 1, 3), x.shift(0, 0, 3, 0, 1), x.taken(0, 0), x.trace(5), x.count(8)};
-        for (int i = 0; i < refused.length; i++) {
-            due.holds("call " + i + " is refused", refused[i] < 0);
-        }
-        due.holds("all is as it was", EdgesTest.told(x).equals(before));
-        due.is("10 deeds", x.burn(), 10);
     }
 
     private static void constants() {
