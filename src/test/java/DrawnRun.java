@@ -157,7 +157,7 @@ final class DrawnRun {
             case 0:
             case 1: {
                 int ws = below(20) == 0 ? near(101000) : 100 * (widthUnit + below(9) - 4) + below(widthUnit > 99 ? 50 : 20);
-                if (size(s) > 16) {
+                if (size(s) > 12) {
                     break;
                 }
                 ask("first", s, ws, near(3));
